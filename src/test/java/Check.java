@@ -27,12 +27,15 @@ final class Check {
         same(what + " changes nothing", Seen.of(book), before);
     }
 
+    /** The class of what the book itself throws; an Error in its place if the machine or a library threw it. */
     static Class<?> thrownBy(Runnable call) {
         try {
             call.run();
             return null;
         } catch (RuntimeException e) {
-            return e.getClass();
+            StackTraceElement[] trace = e.getStackTrace();
+            boolean isOfBook = trace.length > 0 && trace[0].getClassName().startsWith("GlacierBook");
+            return isOfBook ? e.getClass() : Error.class;
         }
     }
 

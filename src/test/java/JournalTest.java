@@ -10,6 +10,7 @@ public final class JournalTest {
         promise22Changed();
         promise22Refusals();
         longJournal();
+        farTooLongJournal();
         CHECK.end();
     }
 
@@ -126,5 +127,19 @@ public final class JournalTest {
         CHECK.same("17: from all of it", book.stockByJournal(1, 0), book.stock(1, 0));
         CHECK.same("22: of all of it", book.changed(0, GlacierBook.FILLED) + book.changed(0, GlacierBook.FROZEN)
                 + book.changed(0, GlacierBook.COUNTED), book.stock(1, 0));
+    }
+
+    /** What these calls answer is free, but they must end, and throw nothing. */
+    private static void farTooLongJournal() {
+        GlacierBook book = new GlacierBook();
+        book.fill(0, 0, 1000, 1000);
+        for (int call = 0; call < 70000; call++) {
+            book.count(0, call % 2);
+        }
+        book.move(0, 1, 1);
+        book.pass(60);
+        CHECK.same("19: the journal has a bound", book.entries() <= 70000, true);
+        CHECK.same("20: its last entry is there", Check.thrownBy(() -> book.changeOf(book.entries() - 1)) == null, true);
+        CHECK.same("17: it can be asked", Check.thrownBy(() -> book.stockByJournal(0, 0)) == null, true);
     }
 }

@@ -12,6 +12,7 @@ public final class PeopleAndDaysTest {
         promise9Frost();
         promise9OrderOfSteps();
         promise9OrderOfEating();
+        promise9EatingOfAllLots();
         promise9FoodOfStationOnly();
         promise9CutRations();
         promise9LeftOverGoesDownTheWorks();
@@ -143,6 +144,18 @@ public final class PeopleAndDaysTest {
         CHECK.same("9: earliest last day first, then lowest number", Seen.journalFrom(book, 5),
                 "13:-3 33:-1 33:-2 3:-2 3:-1 23:-3");
         CHECK.same("9: what is left", Seen.amounts(book), "0 0 0 0 3");
+    }
+
+    private static void promise9EatingOfAllLots() {
+        GlacierBook book = new GlacierBook();
+        for (int lot = 0; lot < 40; lot++) {
+            book.fill(0, 2, 1, 100 - lot);
+        }
+        people(book, 0, 0, 20);
+        CHECK.same("9: of forty lots in a day", book.pass(1), 40);
+        CHECK.same("9: an entry for each", book.entries(), 80);
+        CHECK.same("9: the earliest last day is eaten first", book.lotOf(40), 393);
+        CHECK.same("9: the latest last", book.lotOf(79), 3);
     }
 
     private static void promise9FoodOfStationOnly() {
